@@ -641,7 +641,7 @@ public final class PushdownGameSolver {
      * and keeping the minimal sets needs no work between the rounds.
      */
     private static final class ForcingSets {
-        private static final int SETS = 16;
+        static final int SETS = 16;
         private static final int EVERY_SET = 0xFFFF;
         private static final int[] SETS_WITH_STATE = {0xAAAA, 0xCCCC, 0xF0F0, 0xFF00};
         // a round that changes anything adds a set to a family, and a family has at most 16
@@ -811,7 +811,7 @@ public final class PushdownGameSolver {
 
     /** Counts stacks by the set of states that are accepted with them. */
     private static final class StackCounter {
-        private static final int SETS = 16;
+        private static final int SETS = ForcingSets.SETS;
 
         private final long[] counts = new long[SETS];
         private final long[] higher = new long[SETS];

@@ -638,6 +638,13 @@ public final class PromiseTest {
             Check.due("28 bestRule() of 16 rules", x.bestRule(), owner == 0 ? 3 : -2);
             Check.due("26 winningRound() of 16 rules", x.winningRound(), 1);
         }
+        PushdownGameSolver z = Check.configured(sixteenRules());
+        z.removeRule(0);
+        Check.due("6 addRule as the 16th again", z.addRule(0, 2, 2, -1, -1), 15);
+        z.setTarget(2, 1);
+        placed(z, 3, 0, 2);
+        Check.due("27 distance() over the 16th rule", z.distance(), 2);
+        Check.due("28 bestRule() to the 16th rule", z.bestRule(), 2);
         PushdownGameSolver y = Check.configured("g3,1;t2;r1,0,1,0;r0,0,1;r0,0,2;");
         y.removeRule(2);
         Check.due("24 playableRules() after removeRule", y.playableRules(), 1);
@@ -652,6 +659,7 @@ public final class PromiseTest {
         Check.due("29 rounds() of targets alone", Check.configured("g2,2;t0;t1;r0,0,1;").rounds(), 0);
         Check.due("29 rounds() of a loop", Check.configured("g1,1;r0,0,0,0;").rounds(), 0);
         Check.due("29 rounds() of a pop", Check.configured("g1,1;r0,0,0;").rounds(), 1);
+        Check.due("29 rounds() of four states and no rules", Check.configured("g4,3;t0;").rounds(), 0);
         PushdownGameSolver x = Check.configured("g2,3;t1;r0,0,0,1;r0,1,0,2;r0,2,1;");
         Check.due("29 rounds() of a way of three", x.rounds(), 3);
         x.removeRule(2);
@@ -678,6 +686,7 @@ public final class PromiseTest {
         Check.due("31 forcingSet as the first call", new PushdownGameSolver().forcingSet(0, 0, 0), 1);
         sets(Check.configured("g3,2;t2;r0,0,1,0,1;r1,0,2;"), 0, 0, 0);
         sets(Check.configured("g3,2;r0,0,1,0,1;r1,0,2;"), 0, 0);
+        sets(Check.configured("g4,1;o0;r0,0,1;r0,0,2;"), 0, 0, 6);
         PushdownGameSolver x = Check.configured("g4,3;o1;o2;"
                 + "r0,0,3;r0,0,0;r0,0,1,0;r1,0,1;r1,0,2;r2,0,0;r2,0,1;r2,0,3;r0,1,1,0,0;r3,0,2,0;r3,1,3,2;");
         sets(x, 0, 0, 1, 6, 8);
@@ -742,6 +751,8 @@ public final class PromiseTest {
         Check.due("32 winningStacks(0, 61)", y.winningStacks(0, 61), -1);
         PushdownGameSolver z = Check.configured("g1,1;t0;");
         Check.due("32 winningStacks(0, 60) of one symbol", z.winningStacks(0, 60), 1);
+        PushdownGameSolver v = Check.configured("g4,3;t0;t1;t2;t3;");
+        Check.due("32 winningStacks(3, 39) of four targets", v.winningStacks(3, 39), 4052555153018976267L);
         PushdownGameSolver w = Check.configured("g3,2;o1;t2;r0,0,1;r1,0,0;r1,0,1;r0,1,2;r1,1,2,1;");
         Check.due("32 both states must win below", w.winningStacks(0, 2), 3);
         Check.due("32 the opponent may stay or not", w.winningStacks(1, 5), 31);
