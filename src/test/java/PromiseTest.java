@@ -2,9 +2,6 @@
 public final class PromiseTest {
     private static final int[] NEVER = {Integer.MIN_VALUE, -65, -64, -3, -2, 61, 64, 1 << 30, Integer.MAX_VALUE};
 
-    /** State 0 pops zeros and goes from a one to the target: it wins with every stack that has a one. */
-    private static final String DIG = "g2,2;t1;r0,0,0;r0,1,1;";
-
     private PromiseTest() {
     }
 
@@ -40,49 +37,22 @@ public final class PromiseTest {
         Check.end();
     }
 
-    private static void rule(PushdownGameSolver x, int number, int... wanted) {
-        String name = "rule " + number + " part ";
-        Check.due(name + 0, x.ruleState(number), wanted[0]);
-        Check.due(name + 1, x.ruleTop(number), wanted[1]);
-        Check.due(name + 2, x.ruleNext(number), wanted[2]);
-        Check.due(name + 3, x.ruleSymbol(number, 0), wanted.length > 3 ? wanted[3] : -4);
-        Check.due(name + 4, x.ruleSymbol(number, 1), wanted.length > 4 ? wanted[4] : -4);
-    }
-
-    /** Compares state and stack, the top symbol first. */
-    private static void configuration(PushdownGameSolver x, int state, int... stack) {
-        Check.due("presentState()", x.presentState(), state);
-        Check.due("stackSize()", x.stackSize(), stack.length);
-        for (int i = 0; i < stack.length; i++) {
-            Check.due("stackSymbol(" + i + ")", x.stackSymbol(i), stack[i]);
-        }
-    }
-
-    /** Places a state under a stack that is given with its top symbol first. */
-    private static void placed(PushdownGameSolver x, int state, int... stack) {
-        x.place(state);
-        for (int i = stack.length - 1; i >= 0; i--) {
-            x.push(stack[i]);
-        }
-        configuration(x, state, stack);
-    }
-
     private static void promise1() {
         PushdownGameSolver x = new PushdownGameSolver();
         Check.due("1 ruleCount()", x.ruleCount(), 6);
-        rule(x, 0, 0, 0, 1, 0, 1);
-        rule(x, 1, 0, 1, 0);
-        rule(x, 2, 1, 0, 0);
-        rule(x, 3, 1, 0, 1, 1);
-        rule(x, 4, 1, 1, 2);
-        rule(x, 5, 1, 1, 0, 1);
+        Check.rule(x, 0, 0, 0, 1, 0, 1);
+        Check.rule(x, 1, 0, 1, 0);
+        Check.rule(x, 2, 1, 0, 0);
+        Check.rule(x, 3, 1, 0, 1, 1);
+        Check.rule(x, 4, 1, 1, 2);
+        Check.rule(x, 5, 1, 1, 0, 1);
         for (int q = 0; q < 3; q++) {
             Check.due("1 ownerOf(" + q + ")", x.ownerOf(q), q == 1 ? 1 : 0);
             Check.due("1 isTarget(" + q + ")", x.isTarget(q), q == 2 ? 1 : 0);
         }
         Check.due("1 ownerOf(3)", x.ownerOf(3), -1);
         Check.due("1 push(2)", x.push(2), -1);
-        configuration(x, 0, 0);
+        Check.configuration(x, 0, 0);
         Check.due("1 undo()", x.undo(), -2);
         Check.due("1 configure()", x.configure(), -2);
         Check.due("1 firstError()", x.firstError(), -4);
@@ -108,12 +78,12 @@ public final class PromiseTest {
     }
 
     private static void promise3() {
-        PushdownGameSolver x = Check.configured(DIG);
+        PushdownGameSolver x = Check.configured(Check.DIG);
         x.push(1);
-        Check.due("3 clearText()", x.clearText(), DIG.length());
+        Check.due("3 clearText()", x.clearText(), Check.DIG.length());
         Check.due("3 clearText() again", x.clearText(), 0);
         Check.due("3 ruleCount() after clearText", x.ruleCount(), 2);
-        configuration(x, 0, 1, 0);
+        Check.configuration(x, 0, 1, 0);
         Check.due("3 undo() after clearText", x.undo(), 0);
         Check.due("3 append after clearText", x.append('x'), 1);
     }
@@ -130,7 +100,7 @@ public final class PromiseTest {
 
     private static void promise4() {
         for (String fine : new String[] {"", "g1,1;", "g4,3;", "g4,3;o3;t3;r3,2,3,2,2;", "g2,1;o1;o1;t1;t1;",
-            "g2,1;r0,0,1;r0,0,1;r0,0,1;r1,0,0;", DIG}) {
+            "g2,1;r0,0,1;r0,0,1;r0,0,1;r1,0,0;", Check.DIG}) {
             error(fine, -4);
         }
         for (String first : new String[] {"g0,1;", "g5,1;", "g1,0;", "g1,4;", "g;", "g1;", "g1,;", "g1,1,1;", "g1,1",
@@ -148,17 +118,9 @@ public final class PromiseTest {
         }
         error("g2,1;r0,0,1;r0,0,1;r0,0,1;r0,0,0,0;", 26);
         error("g2,2;r0,0,1;r0,0,1;r0,0,1;r0,1,1;r1,0,1;r0,0,1;", 40);
-        error(sixteenRules(), -4);
-        error(sixteenRules() + "o1;", -4);
-        error(sixteenRules() + "r3,2,0;", sixteenRules().length());
-    }
-
-    private static String sixteenRules() {
-        StringBuilder text = new StringBuilder("g4,3;");
-        for (int i = 0; i < 16; i++) {
-            text.append("r").append(i % 4).append(',').append(i / 4 % 3).append(",0;");
-        }
-        return text.toString();
+        error(Check.sixteenRules(), -4);
+        error(Check.sixteenRules() + "o1;", -4);
+        error(Check.sixteenRules() + "r3,2,0;", Check.sixteenRules().length());
     }
 
     private static void promise5() {
@@ -168,7 +130,7 @@ public final class PromiseTest {
         Check.type(x, "g2,2;o0;t1;r0,1,0,1,0;r1,0,0,1;r1,1,0;x");
         Check.due("5 configure() of a malformed text", x.configure(), -2);
         Check.due("5 ruleCount() of the old game", x.ruleCount(), 6);
-        configuration(x, 0, 1, 0);
+        Check.configuration(x, 0, 1, 0);
         Check.due("5 undo() after a refused configure", x.undo(), 0);
         x.push(1);
         String text = "g2,2;o0;t1;r0,1,0,1,0;r1,0,0,1;r1,1,0;";
@@ -176,10 +138,10 @@ public final class PromiseTest {
         x.winner();
         Check.due("5 configure()", x.configure(), 3);
         Check.due("5 undo() after configure", x.undo(), -2);
-        rule(x, 0, 0, 1, 0, 1, 0);
-        rule(x, 1, 1, 0, 0, 1);
-        rule(x, 2, 1, 1, 0);
-        configuration(x, 0, 0);
+        Check.rule(x, 0, 0, 1, 0, 1, 0);
+        Check.rule(x, 1, 1, 0, 0, 1);
+        Check.rule(x, 2, 1, 1, 0);
+        Check.configuration(x, 0, 0);
         Check.due("5 ownerOf(0)", x.ownerOf(0), 1);
         Check.due("5 ownerOf(1)", x.ownerOf(1), 0);
         Check.due("5 isTarget(0)", x.isTarget(0), 0);
@@ -214,12 +176,12 @@ public final class PromiseTest {
         Check.due("6 addRule", x.addRule(0, 0, 2, 1, 0), 6);
         Check.due("6 the winner is found anew", x.winner(), 0);
         Check.due("6 addRule of no word", x.addRule(0, 0, 2, -1, -1), 7);
-        rule(x, 6, 0, 0, 2, 1, 0);
-        rule(x, 7, 0, 0, 2);
+        Check.rule(x, 6, 0, 0, 2, 1, 0);
+        Check.rule(x, 7, 0, 0, 2);
         Check.due("6 a fourth rule of a pair", x.addRule(0, 0, 2, 0, -1), -3);
         Check.due("6 a wrong fourth rule of a pair", x.addRule(0, 0, 2, 0, 2), -1);
         Check.due("6 addRule of one symbol", x.addRule(0, 1, 2, 1, -1), 8);
-        rule(x, 8, 0, 1, 2, 1);
+        Check.rule(x, 8, 0, 1, 2, 1);
         PushdownGameSolver y = Check.configured("g4,3;");
         for (int i = 0; i < 16; i++) {
             Check.due("6 addRule " + i, y.addRule(i % 4, i / 4 % 3, 3, 2, 2), i);
@@ -238,23 +200,23 @@ public final class PromiseTest {
         }
         Check.due("7 rounds() before", x.rounds(), 4);
         Check.due("7 removeRule(2)", x.removeRule(2), 5);
-        rule(x, 1, 0, 1, 0);
-        rule(x, 2, 1, 0, 1, 1);
-        rule(x, 3, 1, 1, 2);
-        rule(x, 4, 1, 1, 0, 1);
+        Check.rule(x, 1, 0, 1, 0);
+        Check.rule(x, 2, 1, 0, 1, 1);
+        Check.rule(x, 3, 1, 1, 2);
+        Check.rule(x, 4, 1, 1, 0, 1);
         Check.due("7 ruleState(5)", x.ruleState(5), -1);
         Check.due("7 removeRule(4)", x.removeRule(4), 4);
         Check.due("7 the winner is found anew", x.winner(), 0);
         Check.due("7 removeRule(0)", x.removeRule(0), 3);
-        rule(x, 0, 0, 1, 0);
+        Check.rule(x, 0, 0, 1, 0);
         for (int left = 2; left >= 0; left--) {
             Check.due("7 removeRule(0) again", x.removeRule(0), left);
         }
         Check.due("7 removeRule(0) of none", x.removeRule(0), -1);
-        PushdownGameSolver y = Check.configured(sixteenRules());
+        PushdownGameSolver y = Check.configured(Check.sixteenRules());
         Check.due("7 removeRule(15) of 16", y.removeRule(15), 15);
         Check.due("7 addRule after it", y.addRule(3, 0, 1, 2, 1), 15);
-        rule(y, 15, 3, 0, 1, 2, 1);
+        Check.rule(y, 15, 3, 0, 1, 2, 1);
     }
 
     private static void promise8() {
@@ -307,16 +269,16 @@ public final class PromiseTest {
         for (int n : NEVER) {
             Check.due("10 place(" + n + ")", x.place(n), -1);
         }
-        configuration(x, 0, 0);
+        Check.configuration(x, 0, 0);
         x.push(1);
         Check.due("10 place(2)", x.place(2), 2);
-        configuration(x, 2);
+        Check.configuration(x, 2);
         Check.due("10 place(2) again", x.place(2), 0);
         for (int i = 0; i < 12; i++) {
             x.push(1);
         }
         Check.due("10 place(1)", x.place(1), 12);
-        configuration(x, 1);
+        Check.configuration(x, 1);
     }
 
     private static void promise11() {
@@ -331,7 +293,7 @@ public final class PromiseTest {
         }
         Check.due("11 push on a full stack", x.push(0), -3);
         Check.due("11 a wrong push on a full stack", x.push(2), -1);
-        configuration(x, 0, 0, 1, 0, 1, 0, 1, 0, 1, 0, 1, 0, 0);
+        Check.configuration(x, 0, 0, 1, 0, 1, 0, 1, 0, 1, 0, 1, 0, 0);
     }
 
     private static void promise12() {
@@ -344,23 +306,23 @@ public final class PromiseTest {
         Check.due("12 play(1) in another state", x.play(1), -2);
         Check.due("12 play(3) with another top", x.play(3), -2);
         Check.due("12 play(0)", x.play(0), 1);
-        configuration(x, 1, 1, 2);
+        Check.configuration(x, 1, 1, 2);
         Check.due("12 play(1)", x.play(1), 2);
-        configuration(x, 2, 0, 2);
+        Check.configuration(x, 2, 0, 2);
         Check.due("12 play(2)", x.play(2), 0);
-        configuration(x, 0, 2);
+        Check.configuration(x, 0, 2);
         Check.due("12 play(3)", x.play(3), 0);
-        configuration(x, 0, 2);
+        Check.configuration(x, 0, 2);
         x.place(0);
         Check.due("12 play(0) with an empty stack", x.play(0), -2);
-        placed(x, 0, 0, 0, 0, 0, 0, 0, 0, 0, 0, 0, 1);
+        Check.placed(x, 0, 0, 0, 0, 0, 0, 0, 0, 0, 0, 0, 1);
         Check.due("12 play(0) to 12 symbols", x.play(0), 1);
-        configuration(x, 1, 1, 2, 0, 0, 0, 0, 0, 0, 0, 0, 0, 1);
+        Check.configuration(x, 1, 1, 2, 0, 0, 0, 0, 0, 0, 0, 0, 0, 1);
         Check.due("12 play(1) on 12 symbols", x.play(1), 2);
         Check.due("12 play(0) that is not playable on 12 symbols", x.play(0), -2);
-        placed(x, 0, 0, 0, 0, 0, 0, 0, 0, 0, 0, 0, 0, 1);
+        Check.placed(x, 0, 0, 0, 0, 0, 0, 0, 0, 0, 0, 0, 0, 1);
         Check.due("12 play(0) to 13 symbols", x.play(0), -3);
-        configuration(x, 0, 0, 0, 0, 0, 0, 0, 0, 0, 0, 0, 0, 1);
+        Check.configuration(x, 0, 0, 0, 0, 0, 0, 0, 0, 0, 0, 0, 0, 1);
     }
 
     private static void promise13() {
@@ -375,26 +337,26 @@ public final class PromiseTest {
         x.push(1);
         x.place(2);
         Check.due("13 undo() of place", x.undo(), 5);
-        configuration(x, 0, 1, 0);
+        Check.configuration(x, 0, 1, 0);
         Check.due("13 undo() of push", x.undo(), 4);
-        configuration(x, 0, 0);
+        Check.configuration(x, 0, 0);
         Check.due("13 undo() of setTarget", x.undo(), 3);
         Check.due("13 isTarget(0)", x.isTarget(0), 0);
         Check.due("13 undo() of setOwner", x.undo(), 2);
         Check.due("13 ownerOf(0)", x.ownerOf(0), 0);
         Check.due("13 undo() of removeRule", x.undo(), 1);
         Check.due("13 ruleCount()", x.ruleCount(), 7);
-        rule(x, 0, 0, 0, 1, 0, 1);
-        rule(x, 5, 1, 1, 0, 1);
-        rule(x, 6, 0, 0, 2, 1);
+        Check.rule(x, 0, 0, 0, 1, 0, 1);
+        Check.rule(x, 5, 1, 1, 0, 1);
+        Check.rule(x, 6, 0, 0, 2, 1);
         Check.due("13 undo() of addRule", x.undo(), 0);
         Check.due("13 ruleCount() at last", x.ruleCount(), 6);
         Check.due("13 winner() is found anew", x.winner(), 1);
         Check.due("13 undo() of no more", x.undo(), -2);
         x.play(0);
-        configuration(x, 1, 0, 1);
+        Check.configuration(x, 1, 0, 1);
         Check.due("13 undo() of play", x.undo(), 0);
-        configuration(x, 0, 0);
+        Check.configuration(x, 0, 0);
         Check.due("13 the text is not affected", x.clearText(), 1);
     }
 
@@ -406,7 +368,7 @@ public final class PromiseTest {
         for (int left = 5; left >= 0; left--) {
             Check.due("13 undo() of eight changes", x.undo(), left);
         }
-        configuration(x, 0, 1, 0, 0);
+        Check.configuration(x, 0, 1, 0, 0);
         Check.due("13 undo() of the seventh", x.undo(), -2);
         x.setOwner(0, 0);
         x.setTarget(2, 1);
@@ -424,7 +386,7 @@ public final class PromiseTest {
         x.clearText();
         x.configure();
         Check.due("13 refused calls are no changes", x.undo(), 2);
-        configuration(x, 0, 1, 0, 0);
+        Check.configuration(x, 0, 1, 0, 0);
         x.push(1);
         Check.due("13 undo() after undo and push", x.undo(), 2);
         Check.due("13 undo() of setTarget", x.undo(), 1);
@@ -435,9 +397,9 @@ public final class PromiseTest {
     private static void promise14to18() {
         PushdownGameSolver x = Check.configured("g4,3;r3,2,1,2,0;r2,0,3,1;r1,1,0;");
         Check.due("14 ruleCount()", x.ruleCount(), 3);
-        rule(x, 0, 3, 2, 1, 2, 0);
-        rule(x, 1, 2, 0, 3, 1);
-        rule(x, 2, 1, 1, 0);
+        Check.rule(x, 0, 3, 2, 1, 2, 0);
+        Check.rule(x, 1, 2, 0, 3, 1);
+        Check.rule(x, 2, 1, 1, 0);
         for (int n : new int[] {-1, 3, 16, Integer.MIN_VALUE, Integer.MAX_VALUE}) {
             Check.due("15 ruleState(" + n + ")", x.ruleState(n), -1);
             Check.due("16 ruleTop(" + n + ")", x.ruleTop(n), -1);
@@ -469,7 +431,7 @@ public final class PromiseTest {
 
     private static void promise21to23() {
         PushdownGameSolver x = Check.configured("g4,3;");
-        placed(x, 3, 2, 0, 1, 2);
+        Check.placed(x, 3, 2, 0, 1, 2);
         Check.due("23 stackSymbol(4)", x.stackSymbol(4), -1);
         Check.due("23 stackSymbol(-1)", x.stackSymbol(-1), -1);
         for (int n : NEVER) {
@@ -479,7 +441,7 @@ public final class PromiseTest {
         Check.due("21 presentState()", x.presentState(), 2);
         Check.due("22 stackSize()", x.stackSize(), 0);
         Check.due("23 stackSymbol(0) of an empty stack", x.stackSymbol(0), -1);
-        placed(x, 1, 2, 2, 1, 1, 0, 0, 2, 1, 0, 0, 1, 2);
+        Check.placed(x, 1, 2, 2, 1, 1, 0, 0, 2, 1, 0, 0, 1, 2);
         Check.due("23 stackSymbol(12)", x.stackSymbol(12), -1);
     }
 
@@ -488,26 +450,26 @@ public final class PromiseTest {
         Check.due("24 playableRules() of three", x.playableRules(), 3);
         x.push(1);
         Check.due("24 playableRules() of one", x.playableRules(), 1);
-        placed(x, 1, 1);
+        Check.placed(x, 1, 1);
         Check.due("24 playableRules() of none", x.playableRules(), 0);
         x.place(0);
         Check.due("24 playableRules() with an empty stack", x.playableRules(), 0);
-        placed(x, 0, 0, 0, 0, 0, 0, 0, 0, 0, 0, 0, 0, 0);
+        Check.placed(x, 0, 0, 0, 0, 0, 0, 0, 0, 0, 0, 0, 0, 0);
         Check.due("24 playableRules() with a full stack", x.playableRules(), 3);
     }
 
     private static void promise25() {
         PushdownGameSolver x = Check.configured("g4,2;o1;t2;r0,0,1;r1,0,0;r1,0,3;r0,1,2,0,0;r3,1,0,1;");
         Check.due("25 winner() with nothing below", x.winner(), 1);
-        placed(x, 0, 0, 0, 1);
+        Check.placed(x, 0, 0, 0, 1);
         Check.due("25 the reacher forces from both states", x.winner(), 0);
-        placed(x, 0, 0, 0, 0);
+        Check.placed(x, 0, 0, 0, 0);
         Check.due("25 the opponent gets out of the stack", x.winner(), 1);
-        placed(x, 1, 0, 1);
+        Check.placed(x, 1, 0, 1);
         Check.due("25 winner() in a state of the opponent", x.winner(), 0);
         x.removeRule(4);
         Check.due("25 the opponent has one way out", x.winner(), 1);
-        placed(x, 1, 1);
+        Check.placed(x, 1, 1);
         Check.due("25 the opponent has no rule", x.winner(), 1);
         x.place(1);
         Check.due("25 the opponent has no stack", x.winner(), 1);
@@ -526,29 +488,29 @@ public final class PromiseTest {
     private static void promise26() {
         PushdownGameSolver x = Check.configured("g2,3;t1;r0,0,0,1;r0,1,0,2;r0,2,1;");
         Check.due("26 winningRound() of a way of three", x.winningRound(), 3);
-        placed(x, 0, 1);
+        Check.placed(x, 0, 1);
         Check.due("26 winningRound() of a way of two", x.winningRound(), 2);
-        placed(x, 0, 2);
+        Check.placed(x, 0, 2);
         Check.due("26 winningRound() of a way of one", x.winningRound(), 1);
-        placed(x, 1, 2, 2);
+        Check.placed(x, 1, 2, 2);
         Check.due("26 winningRound() of a target", x.winningRound(), 0);
         x.place(1);
         Check.due("26 winningRound() of a target with no stack", x.winningRound(), 0);
         x.place(0);
         Check.due("26 winningRound() of none", x.winningRound(), -4);
-        PushdownGameSolver y = Check.configured(DIG);
-        placed(y, 0, 0, 0, 0, 0, 0, 0, 0, 0, 0, 0, 0, 1);
+        PushdownGameSolver y = Check.configured(Check.DIG);
+        Check.placed(y, 0, 0, 0, 0, 0, 0, 0, 0, 0, 0, 0, 0, 1);
         Check.due("26 winningRound() is not the number of moves", y.winningRound(), 1);
         y.setTarget(1, 0);
         Check.due("26 winningRound() without a target", y.winningRound(), -4);
     }
 
     private static void promise27() {
-        PushdownGameSolver x = Check.configured(DIG);
+        PushdownGameSolver x = Check.configured(Check.DIG);
         Check.due("27 distance() without a one", x.distance(), -4);
-        placed(x, 0, 1);
+        Check.placed(x, 0, 1);
         Check.due("27 distance() of 1", x.distance(), 1);
-        placed(x, 0, 0, 0, 0, 0, 0, 0, 1);
+        Check.placed(x, 0, 0, 0, 0, 0, 0, 0, 1);
         Check.due("27 distance() of 7", x.distance(), 7);
         x.push(0);
         Check.due("27 distance() of 8", x.distance(), -4);
@@ -563,18 +525,18 @@ public final class PromiseTest {
         Check.due("27 the reacher has the long way alone", y.distance(), 3);
         y.setOwner(1, 1);
         Check.due("27 the opponent stays for ever", y.distance(), -4);
-        placed(y, 3);
+        Check.placed(y, 3);
         y.setTarget(3, 0);
         Check.due("27 no stack and no target", y.distance(), -4);
         PushdownGameSolver z = Check.configured("g4,1;t3;r0,0,1,0,0;r1,0,2,0,0;r2,0,3,0,0;");
-        placed(z, 0, 0, 0, 0, 0, 0, 0, 0, 0, 0, 0, 0, 0);
+        Check.placed(z, 0, 0, 0, 0, 0, 0, 0, 0, 0, 0, 0, 0, 0);
         Check.due("27 distance() over a stack of 15", z.distance(), 3);
         Check.due("27 play(0) on 12 symbols", z.play(0), -3);
     }
 
     private static void promise27Search() {
         PushdownGameSolver x = Check.configured("g2,2;o0;t1;r0,0,0;r0,1,1;");
-        placed(x, 0, 0, 0, 0, 0, 0, 0, 1);
+        Check.placed(x, 0, 0, 0, 0, 0, 0, 0, 1);
         Check.due("27 the opponent has to move seven times", x.distance(), 7);
         x.push(0);
         Check.due("27 the opponent has to move eight times", x.distance(), -4);
@@ -583,13 +545,13 @@ public final class PromiseTest {
         PushdownGameSolver z = Check.configured("g4,1;t3;r0,0,1,0;r0,0,2,0;r1,0,2,0;r2,0,3;");
         Check.due("27 the second way is shorter by one", z.distance(), 2);
         PushdownGameSolver w = Check.configured("g4,2;t3;r0,1,1;r0,1,0,0;r0,0,2,0;r2,0,3;r1,0,3;");
-        placed(w, 0, 1);
+        Check.placed(w, 0, 1);
         Check.due("27 no rule is playable once the stack is empty", w.distance(), 3);
         PushdownGameSolver v = Check.configured("g3,2;o1;t2;r0,0,1,1;r0,0,0,1;r0,1,2;");
         Check.due("27 the opponent without rules is no way", v.distance(), 2);
         Check.due("28 the opponent without rules is no way", v.bestRule(), 1);
         PushdownGameSolver u = Check.configured("g3,1;o1;t2;r0,0,1,0;r0,0,0,0,0;r1,0,2;r1,0,0;");
-        placed(u, 0, 0, 0);
+        Check.placed(u, 0, 0, 0);
         Check.due("27 the opponent leads back down for ever", u.distance(), -4);
     }
 
@@ -597,16 +559,16 @@ public final class PromiseTest {
         PushdownGameSolver x = Check.configured("g4,2;t3;r0,0,1,0;r0,0,2,0;r1,0,2,0;r2,0,3;r0,1,2,0;r0,1,2,0;");
         Check.due("28 the better rule is not the first", x.bestRule(), 1);
         Check.due("28 distance() before the better rule", x.distance(), 2);
-        placed(x, 0, 1);
+        Check.placed(x, 0, 1);
         Check.due("28 the first of two that are alike", x.bestRule(), 4);
-        placed(x, 2, 0);
+        Check.placed(x, 2, 0);
         Check.due("28 a rule to the target", x.bestRule(), 3);
-        placed(x, 2, 1);
+        Check.placed(x, 2, 1);
         Check.due("28 no playable rule", x.bestRule(), -4);
         x.setOwner(2, 1);
         Check.due("28 a state of the opponent without rules", x.bestRule(), -2);
-        PushdownGameSolver y = Check.configured(DIG);
-        placed(y, 0, 0, 0, 0, 0, 0, 0, 0, 1);
+        PushdownGameSolver y = Check.configured(Check.DIG);
+        Check.placed(y, 0, 0, 0, 0, 0, 0, 0, 0, 1);
         Check.due("28 distance() of 8", y.distance(), -4);
         Check.due("28 the distance after the rule is 7", y.bestRule(), 0);
         y.push(0);
@@ -618,7 +580,7 @@ public final class PromiseTest {
         z.setOwner(0, 1);
         Check.due("28 a target of the opponent", z.bestRule(), -2);
         PushdownGameSolver w = Check.configured("g4,1;t3;r0,0,1,0,0;r1,0,2,0,0;r2,0,3,0,0;");
-        placed(w, 0, 0, 0, 0, 0, 0, 0, 0, 0, 0, 0, 0, 0);
+        Check.placed(w, 0, 0, 0, 0, 0, 0, 0, 0, 0, 0, 0, 0, 0);
         Check.due("28 over a stack of 15", w.bestRule(), 0);
         w.place(0);
         Check.due("28 with an empty stack", w.bestRule(), -4);
@@ -627,9 +589,9 @@ public final class PromiseTest {
     /** With 16 rules, and with a row of rules that was longer before, no rule behind the last one is looked at. */
     private static void fullRows() {
         for (int owner = 0; owner < 2; owner++) {
-            PushdownGameSolver x = Check.configured(sixteenRules());
+            PushdownGameSolver x = Check.configured(Check.sixteenRules());
             x.setOwner(3, owner);
-            placed(x, 3, 0);
+            Check.placed(x, 3, 0);
             Check.due("24 playableRules() of 16 rules", x.playableRules(), 2);
             Check.due("25 winner() of 16 rules", x.winner(), 1);
             Check.due("27 distance() of 16 rules", x.distance(), -4);
@@ -638,11 +600,11 @@ public final class PromiseTest {
             Check.due("28 bestRule() of 16 rules", x.bestRule(), owner == 0 ? 3 : -2);
             Check.due("26 winningRound() of 16 rules", x.winningRound(), 1);
         }
-        PushdownGameSolver z = Check.configured(sixteenRules());
+        PushdownGameSolver z = Check.configured(Check.sixteenRules());
         z.removeRule(0);
         Check.due("6 addRule as the 16th again", z.addRule(0, 2, 2, -1, -1), 15);
         z.setTarget(2, 1);
-        placed(z, 3, 0, 2);
+        Check.placed(z, 3, 0, 2);
         Check.due("27 distance() over the 16th rule", z.distance(), 2);
         Check.due("28 bestRule() to the 16th rule", z.bestRule(), 2);
         PushdownGameSolver y = Check.configured("g3,1;t2;r1,0,1,0;r0,0,1;r0,0,2;");
@@ -671,36 +633,25 @@ public final class PromiseTest {
                 + "r0,1,0,0,1;r0,1,1,2,0;r1,1,0,0,1;t3;").rounds(), 14);
     }
 
-    private static void sets(PushdownGameSolver x, int state, int symbol, int... masks) {
-        String pair = state + ", " + symbol;
-        Check.due("30 forcingSetCount(" + pair + ")", x.forcingSetCount(state, symbol), masks.length);
-        for (int i = 0; i < masks.length; i++) {
-            Check.due("31 forcingSet(" + pair + ", " + i + ")", x.forcingSet(state, symbol, i), masks[i]);
-        }
-        Check.due("31 forcingSet(" + pair + ", at the end)", x.forcingSet(state, symbol, masks.length), -4);
-        Check.due("31 forcingSet(" + pair + ", max)", x.forcingSet(state, symbol, Integer.MAX_VALUE), -4);
-        Check.due("31 forcingSet(" + pair + ", -1)", x.forcingSet(state, symbol, -1), -1);
-    }
-
     private static void promise30and31() {
         Check.due("31 forcingSet as the first call", new PushdownGameSolver().forcingSet(0, 0, 0), 1);
-        sets(Check.configured("g3,2;t2;r0,0,1,0,1;r1,0,2;"), 0, 0, 0);
-        sets(Check.configured("g3,2;r0,0,1,0,1;r1,0,2;"), 0, 0);
-        sets(Check.configured("g4,1;o0;r0,0,1;r0,0,2;"), 0, 0, 6);
+        Check.sets(Check.configured("g3,2;t2;r0,0,1,0,1;r1,0,2;"), 0, 0, 0);
+        Check.sets(Check.configured("g3,2;r0,0,1,0,1;r1,0,2;"), 0, 0);
+        Check.sets(Check.configured("g4,1;o0;r0,0,1;r0,0,2;"), 0, 0, 6);
         PushdownGameSolver x = Check.configured("g4,3;o1;o2;"
                 + "r0,0,3;r0,0,0;r0,0,1,0;r1,0,1;r1,0,2;r2,0,0;r2,0,1;r2,0,3;r0,1,1,0,0;r3,0,2,0;r3,1,3,2;");
-        sets(x, 0, 0, 1, 6, 8);
-        sets(x, 1, 0, 6);
-        sets(x, 2, 0, 11);
-        sets(x, 0, 1, 15);
-        sets(x, 3, 0, 11);
-        sets(x, 3, 1);
-        sets(x, 3, 2);
+        Check.sets(x, 0, 0, 1, 6, 8);
+        Check.sets(x, 1, 0, 6);
+        Check.sets(x, 2, 0, 11);
+        Check.sets(x, 0, 1, 15);
+        Check.sets(x, 3, 0, 11);
+        Check.sets(x, 3, 1);
+        Check.sets(x, 3, 2);
         x.setTarget(1, 1);
-        sets(x, 0, 0, 0);
-        sets(x, 1, 0, 0);
-        sets(x, 1, 2, 0);
-        sets(x, 2, 0, 9);
+        Check.sets(x, 0, 0, 0);
+        Check.sets(x, 1, 0, 0);
+        Check.sets(x, 1, 2, 0);
+        Check.sets(x, 2, 0, 9);
         for (int n : NEVER) {
             Check.due("30 forcingSetCount(" + n + ", 0)", x.forcingSetCount(n, 0), -1);
             Check.due("30 forcingSetCount(0, " + n + ")", x.forcingSetCount(0, n), -1);
@@ -717,11 +668,11 @@ public final class PromiseTest {
         // three sets of which none contains another, and every two of which meet or not
         PushdownGameSolver y = Check.configured("g4,3;o1;o2;o3;r0,0,1,1;r0,0,2,1;r0,0,3,1;"
                 + "r1,1,0;r1,1,1;r2,1,2;r2,1,3;r3,1,0;r3,1,3;");
-        sets(y, 0, 0, 3, 9, 12);
+        Check.sets(y, 0, 0, 3, 9, 12);
     }
 
     private static void promise32() {
-        PushdownGameSolver x = Check.configured(DIG);
+        PushdownGameSolver x = Check.configured(Check.DIG);
         Check.due("32 winningStacks(0, 0)", x.winningStacks(0, 0), 0);
         Check.due("32 winningStacks(1, 0)", x.winningStacks(1, 0), 1);
         Check.due("32 winningStacks(0, 1)", x.winningStacks(0, 1), 1);
@@ -774,8 +725,8 @@ public final class PromiseTest {
         x.undo();
         Check.due("an error changes no text", x.clearText(), 0);
         Check.due("an error changes no rule", x.ruleCount(), 6);
-        rule(x, 0, 0, 0, 1, 0, 1);
-        configuration(x, 0, 0);
+        Check.rule(x, 0, 0, 0, 1, 0, 1);
+        Check.configuration(x, 0, 0);
         Check.due("an error changes no owner", x.ownerOf(0), 0);
         Check.due("an error changes no target", x.isTarget(0), 0);
         Check.due("an error is no change", x.undo(), -2);
