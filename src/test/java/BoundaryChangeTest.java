@@ -312,6 +312,21 @@ public final class BoundaryChangeTest {
         Check.due("ruleState(15)", y.ruleState(15), -1);
     }
 
+    @Boundary(promise = 7, sentence = "Removes a rule; the numbers of the rules behind it become smaller by 1.")
+    static void removedRuleIsForgotten() {
+        for (int owner = 0; owner < 2; owner++) {
+            PushdownGameSolver x = Check.configured("g3,1;t2;r0,0,1,0;r1,0,2;r0,0," + (owner == 0 ? "2;" : "0;"));
+            x.setOwner(0, owner);
+            Check.due("distance() with the last rule", x.distance(), owner == 0 ? 1 : -4);
+            Check.due("playableRules() with the last rule", x.playableRules(), 2);
+            x.removeRule(2);
+            Check.due("distance() without the last rule", x.distance(), 2);
+            Check.due("bestRule() without the last rule", x.bestRule(), owner == 0 ? 0 : -2);
+            Check.due("playableRules() without the last rule", x.playableRules(), 1);
+            Check.due("winner() without the last rule", x.winner(), 0);
+        }
+    }
+
     @Boundary(promise = 7, sentence = "`rule`: number of an existing rule")
     static void ruleToRemove() {
         Check.due("removeRule(0)", sixteen().removeRule(0), 15);

@@ -14,8 +14,6 @@ import java.util.regex.Pattern;
 public final class BoundaryCoverageTest {
     private static final Path DOCUMENT = Path.of("../shared/DOC.md");
     private static final int PROMISES = 32;
-    private static final Pattern CODE =
-            Pattern.compile("INVALID_ARGUMENT|NOT_POSSIBLE|CAPACITY_EXCEEDED|NOT_FOUND|OVERFLOW");
     private static final Pattern ARGUMENT = Pattern.compile("(?m)^- (`\\w+`: .*)$");
 
     /** What the description says without naming a boundary. */
@@ -85,7 +83,7 @@ public final class BoundaryCoverageTest {
         }
         for (String part : ARGUMENT.matcher(section).replaceAll("").split("[;\n]")) {
             String clause = part.trim().replaceAll("\\.$", "");
-            if (CODE.matcher(clause).find()) {
+            if (Boundaries.CODE.matcher(clause).find()) {
                 Check.holds("promise " + promise + " has a test of " + clause, isTested(tests, promise, clause));
             }
         }

@@ -292,6 +292,11 @@ public final class BoundaryGameTest {
             x.setTarget(0, 0);
             x.push(1);
             Check.due("a rule for the top, owner " + owner, x.winner(), 0);
+            PushdownGameSolver y = Check.configured("g2,1;t1;r0,0,1;");
+            y.setOwner(0, owner);
+            Check.due("a rule for symbol 0, owner " + owner, y.winner(), 0);
+            y.place(0);
+            Check.due("a rule for symbol 0 and an empty stack, owner " + owner, y.winner(), 1);
         }
     }
 }

@@ -107,9 +107,8 @@ public final class BoundaryLookTest {
     @Boundary(promise = 18, sentence = "`index`: 0 for the upper symbol, 1 for the lower symbol")
     static void indexOfSymbol() {
         for (int rule = 0; rule < 3; rule++) {
-            int number = rule;
             for (int index : Check.outside(0, 1)) {
-                Check.due("ruleSymbol(" + rule + ", " + index + ")", threeRules().ruleSymbol(number, index), -1);
+                Check.due("ruleSymbol(" + rule + ", " + index + ")", threeRules().ruleSymbol(rule, index), -1);
             }
         }
         Check.due("ruleSymbol(0, 0)", threeRules().ruleSymbol(0, 0), 2);

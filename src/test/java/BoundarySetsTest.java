@@ -66,6 +66,7 @@ public final class BoundarySetsTest {
             Check.due("winningRound() of another state", x.winningRound(), -4);
         }
         Check.due("rounds() of them", x.rounds(), 0);
+        Check.due("rounds() of four states, of which the first is a target", Check.configured("g4,3;t0;").rounds(), 0);
     }
 
     @Boundary(promise = 0, sentence = "if p is a target: the empty set;")
@@ -205,6 +206,9 @@ public final class BoundarySetsTest {
         Check.due("a target with an empty stack", x.winningRound(), 0);
         x.place(0);
         Check.due("an empty stack", x.winningRound(), -4);
+        x.addRule(0, 0, 3, -1, -1);
+        Check.due("an empty stack and a rule for symbol 0", x.winningRound(), -4);
+        x.undo();
         Check.placed(x, 0, 1);
         Check.due("a set without states", x.winningRound(), 1);
         Check.placed(x, 2, 1);

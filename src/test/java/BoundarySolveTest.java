@@ -113,6 +113,23 @@ public final class BoundarySolveTest {
         Refused.due("distance() of 8", () -> digging(7), PushdownGameSolver::distance, -4);
     }
 
+    @Boundary(promise = 27, sentence = "Returns the least number n from 0 to 7 such that the reacher can force that a"
+            + " target state is reached after at most n moves")
+    static void shortestOrLongestWay() {
+        String[] orders = {"r0,0,1,0;r0,0,2,0;", "r0,0,2,0;r0,0,1,0;", "r0,0,1,0;r0,0,2,0;r0,0,1,0;",
+            "r0,0,2,0;r0,0,1,0;r0,0,2,0;"};
+        for (String order : orders) {
+            PushdownGameSolver x = Check.configured("g4,1;t3;r1,0,2,0;r2,0,3;" + order);
+            Check.due("distance() of the reacher with " + order, x.distance(), 2);
+            x.setOwner(0, 1);
+            Check.due("distance() of the opponent with " + order, x.distance(), 3);
+        }
+        PushdownGameSolver y = Check.configured(Check.sixteenRules());
+        y.setTarget(0, 1);
+        Check.placed(y, 3, 0);
+        Check.due("distance() with 16 rules", y.distance(), 1);
+    }
+
     @Boundary(promise = 27,
             sentence = "(a configuration without playable rules, whose state is not a target, has none)")
     static void distanceWithoutRules() {
@@ -129,6 +146,9 @@ public final class BoundarySolveTest {
             x.push(0);
             Check.due("distance() in a target without a rule", x.distance(), 0);
         }
+        PushdownGameSolver z = Check.configured("g4,2;t3;r0,1,1;r0,1,0,0;r0,0,2,0;r2,0,3;r1,0,3;");
+        Check.placed(z, 0, 1);
+        Check.due("distance() where the shorter way empties the stack", z.distance(), 3);
         PushdownGameSolver y = Check.configured("g3,1;o0;t1;r0,0,1;r0,0,2,0;");
         Check.due("distance() where the opponent goes where no rule is", y.distance(), -4);
     }
@@ -366,15 +386,15 @@ public final class BoundarySolveTest {
     @Boundary(promise = 32, sentence = "OVERFLOW if the number, or the number of all stacks of this size (the number of"
             + " symbols to the power of size), does not fit into a long")
     static void beyondLong() {
-        PushdownGameSolver x = Check.configured("g2,3;t1;");
-        Check.due("winningStacks(1, 39) of all", x.winningStacks(1, 39), POWER_39_OF_3);
-        Check.due("winningStacks(0, 39) of none", x.winningStacks(0, 39), 0);
+        PushdownGameSolver three = Check.configured("g2,3;t1;");
+        Check.due("winningStacks(1, 39) of all", three.winningStacks(1, 39), POWER_39_OF_3);
+        Check.due("winningStacks(0, 39) of none", three.winningStacks(0, 39), 0);
         for (int size = 40; size <= 60; size++) {
-            Check.due("winningStacks(1, " + size + ") of all", x.winningStacks(1, size), -5);
-            Check.due("winningStacks(0, " + size + ") of none", x.winningStacks(0, size), -5);
+            Check.due("winningStacks(1, " + size + ") of all", three.winningStacks(1, size), -5);
+            Check.due("winningStacks(0, " + size + ") of none", three.winningStacks(0, size), -5);
         }
-        Refused.due("winningStacks(0, 40)", x2 -> x2.winningStacks(0, 40), -5);
-        Refused.due("winningStacks(3, 60)", x2 -> x2.winningStacks(3, 60), -5);
+        Refused.due("winningStacks(0, 40)", x -> x.winningStacks(0, 40), -5);
+        Refused.due("winningStacks(3, 60)", x -> x.winningStacks(3, 60), -5);
         PushdownGameSolver two = Check.configured("g2,2;t1;");
         Check.due("winningStacks(1, 60) of two symbols", two.winningStacks(1, 60), 1L << 60);
         PushdownGameSolver one = Check.configured("g2,1;t1;");

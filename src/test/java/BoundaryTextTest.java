@@ -66,7 +66,7 @@ public final class BoundaryTextTest {
         malformed("g2,;", 0);
         malformedInGame("o01;", "o10;", "o;", "t00;", "r00,0,0;", "r0,00,0;", "r0,0,00;", "r0,0,0,00;",
                 "r0,0,0,0,00;", "r,0,0;", "r0,,0;", "r0,0,;", "r0,0,0,;", "r0,0,0,,0;", "o-1;", "o+1;",
-                "o/;", "o:;", "r0,0,/;", "r0,0,:;", "oa;");
+                "o/;", "o:;", "r0,0,/;", "r0,0,:;", "r0,0,0,/;", "r0,0,0,0,/;", "r0,0,0,/,/;", "oa;");
     }
 
     @Boundary(promise = 0, sentence = "gS,K; the game has S states (1 to 4) and K symbols (1 to 3)")
@@ -122,7 +122,8 @@ public final class BoundaryTextTest {
         PushdownGameSolver x = Check.configured("g4,3;r0,0,3;r3,2,0;");
         Check.rule(x, 0, 0, 0, 3);
         Check.rule(x, 1, 3, 2, 0);
-        malformedInGame("r;", "r0;", "r0,0;", "r0,0,0", "r0,0,;", "R0,0,0;", "r000;", "r0.0.0;", "r0;0;0;");
+        malformedInGame("r;", "r0;", "r0,0;", "r0,0,0", "r0,0,;", "R0,0,0;", "r000;", "r0.0.0;", "r0;0;0;",
+                "r0,0;0;");
     }
 
     @Boundary(promise = 0, sentence = "rP,G,Q,A; the same, but the rule pushes the symbol A")

@@ -8,7 +8,13 @@ final class Refused {
     private static final int UNDONE_AT_MOST = 7;
     private static final String OTHER_TEXT = "g2,1;t1;r0,0,1;";
 
+    private static int asked = 0;
+
     private Refused() {
+    }
+
+    static int asked() {
+        return asked;
     }
 
     /** A solver in which a change would show: a game, six changes and more, and the text of another game. */
@@ -33,6 +39,7 @@ final class Refused {
 
     static void due(String call, Supplier<PushdownGameSolver> before, ToLongFunction<PushdownGameSolver> made,
             long code) {
+        asked++;
         for (int undone = 0; undone <= UNDONE_AT_MOST; undone++) {
             PushdownGameSolver called = before.get();
             PushdownGameSolver twin = before.get();
