@@ -659,8 +659,10 @@ public final class PushdownGameSolver {
 
         void begin() {
             round = 0;
+            // pairs that the game does not have hold no set, whatever an earlier, greater game left in the rows
             for (int pair = 0; pair < Pair.PAIRS; pair++) {
                 families[pair] = 0;
+                coming[pair] = 0;
             }
             for (int symbol = 0; symbol < game.symbols; symbol++) {
                 for (int state = 0; state < game.states; state++) {

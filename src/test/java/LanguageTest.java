@@ -1,6 +1,8 @@
 import java.io.IOException;
 import java.nio.file.Files;
 import java.nio.file.Path;
+import java.util.Set;
+import java.util.TreeSet;
 import java.util.regex.Matcher;
 import java.util.regex.Pattern;
 
@@ -11,6 +13,9 @@ public final class LanguageTest {
         "\\bassert\\b", "\\bpackage\\b", "\\bimport\\b", "->", "::", "Exact\\b", "\\bThread\\b", "\\bRandom\\b",
         "\\bSystem\\.(?!arraycopy)", "\\bequals\\b", "\\bhashCode\\b", "\\btoString\\b", "\\bstatic\\s*\\{",
         "\\bdouble\\b", "\\bfloat\\b", "\\bwhile\\b", "\\bprotected\\b", "\\bObject\\b"};
+
+    /** The library of rule 4, as far as the class uses it; a name of rule 4 that is new here is added. */
+    private static final Set<String> LIBRARY = Set.of("Math.max", "Math.min", "System.arraycopy", "Long.MAX_VALUE");
 
     private LanguageTest() {
     }
@@ -27,6 +32,8 @@ public final class LanguageTest {
         Check.holds("at most twelve classes", Pattern.compile("\\bclass \\w").matcher(code).results().count() <= 12);
         methods(code);
         staticFields(code);
+        library(code);
+        loops(code);
         Check.end();
     }
 
@@ -55,5 +62,35 @@ public final class LanguageTest {
                     field.group().matches(" +(public |private )?static final (int|String|int\\[\\]) [A-Z_]+ =.*"));
         }
         Check.holds("the constants are found", fields > 15);
+    }
+
+    private static void library(String code) {
+        Set<String> own = new TreeSet<>();
+        Matcher named = Pattern.compile("\\bclass (\\w+)").matcher(code);
+        while (named.find()) {
+            own.add(named.group(1));
+        }
+        Matcher used = Pattern.compile("\\b([A-Z]\\w*[a-z]\\w*)\\.(\\w+)").matcher(code);
+        while (used.find()) {
+            Check.holds("own or of rule 4: " + used.group(),
+                    own.contains(used.group(1)) || LIBRARY.contains(used.group()));
+        }
+        Matcher made = Pattern.compile("\\bnew (\\w+)").matcher(code);
+        while (made.find()) {
+            Check.holds("own or a row of numbers: " + made.group(),
+                    own.contains(made.group(1)) || made.group(1).matches("int|long|char"));
+        }
+    }
+
+    /** Rule 9: each loop counts against a bound that stands in its own line. */
+    private static void loops(String code) {
+        Matcher loop = Pattern.compile("\\b(?:for|while|do)\\b[^{]*\\{").matcher(code);
+        int loops = 0;
+        while (loop.find()) {
+            loops++;
+            Check.holds("counts up or down to a bound: " + loop.group(), loop.group().matches(
+                    "for \\(int (\\w+) = [^;]+; (\\1 <=? [\\w.()]+( && [^;]+)?; \\1\\+\\+|\\1 >= 0; \\1--)\\) \\{"));
+        }
+        Check.holds("the loops are found", loops > 20);
     }
 }
